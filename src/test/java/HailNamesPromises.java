@@ -165,6 +165,9 @@ public final class HailNamesPromises {
         for (int i = 0; i < texts.length; i++) {
             due(8, "fault() of " + texts[i], fresh(texts[i]).fault(), faults[i]);
         }
+        due(8, "fault() of a full PAD", fresh(".".repeat(60)).fault(), none);
+        due(8, "fault() at the last of 60", fresh(".".repeat(59) + "!").fault(), 59);
+        due(8, "fault() of a full PAD when more must come", fresh(".".repeat(58) + "A>").fault(), 60);
     }
 
     private static void judge() {
@@ -477,6 +480,10 @@ public final class HailNamesPromises {
         x.stone(3, 0, 2, 5);
         due(23, "storm(4, 1, 0)", x.storm(4, 1, 0), 8);
         due(23, "storm(4, 1, 1)", x.storm(4, 1, 1), 1);
+        // Seed 2: x is 224, y is 28: E thinks of D; then x is 16874, y is 2109: the STONE of F falls on CELL 11.
+        x.person(5, 7, 0);
+        due(23, "storm(2, 2, 0)", x.storm(2, 2, 0), 9 + 32);
+        x.person(5, 0, 0);
         // Seed 1: x is 149, y is 18: READER 2 reads the STONE of E.
         x.stone(4, 6, 9, 33);
         due(23, "storm(1, 1, 2)", x.storm(1, 1, 2), 39);
