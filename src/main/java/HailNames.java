@@ -511,7 +511,9 @@ public final class HailNames {
             System.arraycopy(other.place, 0, place, 0, READERS);
             System.arraycopy(other.stunned, 0, stunned, 0, READERS);
             System.arraycopy(other.stonesRead, 0, stonesRead, 0, READERS);
-            System.arraycopy(other.acted, 0, acted, 0, READERS);
+            for (int r = 0; r < READERS; r++) {
+                acted[r] = other.acted[r];
+            }
             melting = other.melting;
             second = other.second;
         }

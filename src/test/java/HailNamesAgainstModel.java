@@ -251,9 +251,9 @@ public final class HailNamesAgainstModel {
     // ---- roots and thoughts, all of them
 
     private static void allRoots() {
-        HailNames x = new HailNames();
         int[] first = new int[1000];
         for (int n = 0; n < 1000; n++) {
+            HailNames x = new HailNames();
             first[n] = HailNames.NONE;
             for (int take = 1; take * take <= n && first[n] == HailNames.NONE; take++) {
                 if (first[n - take] == HailNames.NONE) {
@@ -269,8 +269,8 @@ public final class HailNamesAgainstModel {
         for (int n = 2; n <= 7; n++) {
             countedThoughts(n);
         }
-        HailNames x = new HailNames();
         for (int n = 8; n <= 12; n++) {
+            HailNames x = new HailNames();
             BigInteger others = BigInteger.valueOf(n - 1);
             for (int k = 0; k < n; k++) {
                 BigInteger ways = choose(n - 1, k).multiply(BigInteger.valueOf(n - 2).pow(n - 1 - k));

@@ -1,26 +1,5 @@
 /** For each promise of DOC.md: ordinary inputs, the edges it names, wrong inputs. Answers are worked out by hand. */
-public final class HailNamesPromises {
-    private static int wrong = 0;
-
-    private static void due(int promise, String call, long got, long want) {
-        if (got != want) {
-            wrong++;
-            System.out.println("promise " + promise + ": " + call + " answered " + got + ", due is " + want);
-        }
-    }
-
-    private static HailNames said(HailNames x, String text) {
-        x.wipe();
-        for (int i = 0; i < text.length(); i++) {
-            x.say(text.charAt(i));
-        }
-        return x;
-    }
-
-    private static HailNames fresh(String text) {
-        return said(new HailNames(), text);
-    }
-
+public final class HailNamesPromises extends HailTest {
     public static void main(String[] args) {
         newObject();
         person();
@@ -46,10 +25,7 @@ public final class HailNamesPromises {
         storm();
         images();
         told();
-        System.out.println(wrong == 0 ? "all answers are as due" : wrong + " answers are not as due");
-        if (wrong != 0) {
-            System.exit(1);
-        }
+        tellAndExit();
     }
 
     private static void newObject() {
