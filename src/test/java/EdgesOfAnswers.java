@@ -5,6 +5,7 @@ public final class EdgesOfAnswers extends HailTest {
         planJustInTime();
         planAsSoonAsHeMay();
         planOneASecond();
+        planInEachOrder();
         planLeastAsBits();
         planAtTheLastSecond();
         planOfHimAlone();
@@ -21,9 +22,11 @@ public final class EdgesOfAnswers extends HailTest {
         stormDraws();
         stormActsThatCanNotBe();
         stormLengths();
+        stormNotedOfAll();
         stormChangesNothing();
         imagesKeepAll();
         imagesApart();
+        imagesKeepSights();
         tellAndExit();
     }
 
@@ -128,7 +131,34 @@ public final class EdgesOfAnswers extends HailTest {
         due(15, "there just in time, but for so little", x.plan(0, 1), 6);
     }
 
+    /** The one that melts first must be read first, whosever it is. */
+    private static void planInEachOrder() {
+        for (int first = 0; first < 8; first++) {
+            for (int then = 0; then < 8; then++) {
+                if (first != then) {
+                    HailNames x = withReader(5, 0);
+                    x.stone(first, 4, 2, 10);
+                    x.stone(then, 6, 5, 10);
+                    due(15, first + ", then " + then + " just in time", x.plan(0, 1), (1 << first) + (1 << then));
+                    x.stone(then, 6, 4, 10);
+                    due(15, first + " or " + then, x.plan(0, 1), 1 << Math.min(first, then));
+                }
+            }
+        }
+        HailNames x = withReader(3, 0);
+        for (int p = 0; p < 8; p++) {
+            x.stone(p, 3, 8 - p, 99);
+        }
+        due(15, "8 on one CELL, the greatest first", x.plan(0, 1), 255);
+    }
+
     private static void planLeastAsBits() {
+        for (int p = 0; p < 8; p++) {
+            HailNames x = withReader(0, 0);
+            x.stone(p, 0, 1, 1);
+            due(15, "one of the least SIZE and FIGURE", x.plan(0, 0), 1);
+            due(15, "whose", x.plan(0, 1), 1 << p);
+        }
         HailNames x = withReader(5, 0);
         x.stone(3, 4, 2, 9);
         x.stone(6, 6, 2, 9);
@@ -497,6 +527,16 @@ public final class EdgesOfAnswers extends HailTest {
         due(23, "1 draw: B's alone", x.storm(0, 1, 0), 2);
     }
 
+    /** "NOTED of all added", by a storm of one draw that can not be: 74, 9: B@b. */
+    private static void stormNotedOfAll() {
+        HailNames x = new HailNames();
+        due(23, "nothing NOTED", x.storm(0, 1, 2), 0);
+        for (int p = 0; p < 8; p++) {
+            x.person(p, 0, 99);
+            due(23, "NOTED of the first " + (p + 1), x.storm(0, 1, 2), 99 * (p + 1));
+        }
+    }
+
     /** "Nothing is DONE in fact"; "from all as it is": not from the text. */
     private static void stormChangesNothing() {
         HailNames x = new HailNames();
@@ -624,5 +664,35 @@ public final class EdgesOfAnswers extends HailTest {
         x.restore(0);
         due(25, "he has done something in this second", x.told(4), 14);
         due(25, "the reason", said(x, "0<").judge(1), 5);
+    }
+
+    /** The set, p and k of each SIGHT, also of 8, though others were seen since. */
+    private static void imagesKeepSights() {
+        HailNames x = new HailNames();
+        x.seen(1, 1, 1);
+        x.image(0);
+        x.forget();
+        x.seen(2, 2, 0);
+        x.image(1);
+        due(25, "restore(0)", x.restore(0), 1);
+        due(19, "0 thinks of 1: how many", x.nets(-1), 27);
+        due(19, "0 thinks of 1: the last", x.nets(26), 1332);
+        due(25, "restore(1)", x.restore(1), 1);
+        due(19, "1 does not think of 2: how many", x.nets(-1), 54);
+        due(19, "1 does not think of 2: the last", x.nets(53), 3332);
+        for (int i = 2; i <= 7; i++) {
+            x.seen(1, 3, 1);
+        }
+        x.seen(8, 1, 1);
+        x.image(0);
+        x.forget();
+        for (int i = 1; i <= 8; i++) {
+            x.seen(4, 0, 1);
+        }
+        x.restore(0);
+        due(26, "8 SIGHTS", x.told(5), 8);
+        due(19, "the last counts: how many", x.nets(-1), 6);
+        due(19, "the last counts: the first", x.nets(0), 3001);
+        due(17, "there is no room for more", x.seen(1, 1, 1), FULL);
     }
 }

@@ -210,6 +210,8 @@ public final class EdgesOfStorms extends HailTest {
         due(10, "NOTED is the FIGURE, though it was more", x.behind(0, 1), 1);
         due(10, "COUNT stays", x.behind(0, 0), 3);
         due(10, "it lies nowhere", x.behind(0, 2), NONE);
+        due(10, "nor has it a SIZE", x.behind(0, 3), 0);
+        due(10, "nor a FIGURE", x.behind(0, 4), 0);
         due(10, "the other lies", x.behind(1, 2), 0);
         due(10, "of the other nothing is NOTED", x.behind(1, 1), 0);
         due(11, "READ", x.reads(0, 2), 1);

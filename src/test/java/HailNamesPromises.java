@@ -29,6 +29,14 @@ public final class HailNamesPromises extends HailTest {
     }
 
     private static void newObject() {
+        HailNames other = new HailNames();
+        other.person(0, 9, 9);
+        other.stone(1, 1, 9, 9);
+        other.seen(1, 1, 1);
+        after(other, "0>.");
+        other.say('A');
+        other.image(0);
+        // What was done with another object is no matter.
         HailNames x = new HailNames();
         int[] all = {0, 0, 1, 0, 15, 0};
         for (int i = 0; i < all.length; i++) {

@@ -163,39 +163,33 @@ public final class Refusals extends HailTest {
     // ---- on texts that can not stand
 
     private static void faultBeforeState(String text) {
-        for (int w = 0; w < 5; w++) {
+        for (int w = 0; w < 3; w++) {
             int what = w;
-            if (what < 3) {
-                refused(9, "judge(" + what + ")", text, x -> x.judge(what), NO);
-            }
-            refused(10, "behind(2, " + what + ")", text, x -> x.behind(2, what), NO);
-            if (what < 4) {
-                refused(11, "reads(2, " + what + ")", text, x -> x.reads(2, what), NO);
-                refused(12, "yard(" + what + ")", text, x -> x.yard(what), NO);
-            }
-            if (what < 2) {
-                refused(13, "lost(" + what + ")", text, x -> x.lost(what), NO);
-            }
+            refused(9, "judge(" + what + ")", text, x -> x.judge(what), NO);
         }
-        refused(14, "done()", text, HailNames::done, NO);
+        allBehindRefused(text, NO);
     }
 
     private static void stateOfText() {
         due(9, "judge(0) is not refused for an ACT", busy(IMPOSSIBLE).judge(0), 2);
         due(9, "judge(1) is not refused for an ACT", busy(IMPOSSIBLE).judge(1), 1);
         refused(9, "judge(2)", IMPOSSIBLE, x -> x.judge(2), STATE);
+        allBehindRefused(IMPOSSIBLE, STATE);
+    }
+
+    private static void allBehindRefused(String text, int refusal) {
         for (int w = 0; w < 5; w++) {
             int what = w;
-            refused(10, "behind(2, " + what + ")", IMPOSSIBLE, x -> x.behind(2, what), STATE);
+            refused(10, "behind(2, " + what + ")", text, x -> x.behind(2, what), refusal);
             if (what < 4) {
-                refused(11, "reads(2, " + what + ")", IMPOSSIBLE, x -> x.reads(2, what), STATE);
-                refused(12, "yard(" + what + ")", IMPOSSIBLE, x -> x.yard(what), STATE);
+                refused(11, "reads(2, " + what + ")", text, x -> x.reads(2, what), refusal);
+                refused(12, "yard(" + what + ")", text, x -> x.yard(what), refusal);
             }
             if (what < 2) {
-                refused(13, "lost(" + what + ")", IMPOSSIBLE, x -> x.lost(what), STATE);
+                refused(13, "lost(" + what + ")", text, x -> x.lost(what), refusal);
             }
         }
-        refused(14, "done()", IMPOSSIBLE, HailNames::done, STATE);
+        refused(14, "done()", text, HailNames::done, refusal);
     }
 
     // ---- what is full, what is not kept
